@@ -77,6 +77,7 @@ public final class DiskArbiters {
         return wasUp;
     }
 
+    /** One that is up is restarted as well: the document says what holds behind the call, without a condition. */
     public boolean restart(int controller) throws IndexOutOfBoundsException {
         Controller restarting = controllerAt(controller);
         boolean wasDown = !restarting.up;
@@ -538,7 +539,7 @@ public final class DiskArbiters {
             enter(ASKING);
         }
 
-        /** Own rounds are those that leave number when one is taken off and they are divided by three. */
+        /** The least round above that one of the form 3 * i + number + 1: no other controller starts it. */
         private int nextOwnRound(int above) {
             return above + 1 + Math.floorMod(number - above, CONTROLLERS);
         }
