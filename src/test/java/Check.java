@@ -5,6 +5,7 @@ import java.lang.reflect.Modifier;
 /** What the tests share: comparing answers, runs of steps, and a picture of an object's whole state. */
 final class Check {
     static final int[] ASKING_AND_VOTING = {2, 4, 5, 5, 4, 5, 7, 4, 5, 5, 4, 5, 8};
+    static final int EJECT_1 = entry(2, 1, 0, 0, 0, 0);
     private static int wrong;
     private static int compared;
 
@@ -44,6 +45,25 @@ final class Check {
     /** A round without a rival: the controller logs an entry. */
     static void logOne(DiskArbiters x, String what, int controller) {
         steps(x, what, controller, ASKING_AND_VOTING);
+    }
+
+    /** The controller wishes and starts that often: all rounds but the last are lost by crashes. */
+    static void startOften(DiskArbiters x, int controller, int times) {
+        x.want(controller, 2, controller, 0, 0);
+        for (int i = 0; i < times; i++) {
+            x.crash(controller);
+            x.restart(controller);
+            steps(x, "start", controller, 2);
+            due("round of start " + i, x.round(controller), 3 * i + controller + 1);
+        }
+    }
+
+    /** Controller 0 has a vote, for EJECT_1: its next step writes at disk 0 for phase 2. */
+    static DiskArbiters voted() {
+        DiskArbiters x = new DiskArbiters();
+        x.want(0, 2, 1, 0, 0);
+        steps(x, "to the vote", 0, 2, 4, 5, 5, 4, 5, 7);
+        return x;
     }
 
     static void block(DiskArbiters x, String what, int d, int controller, int place, int... words) {

@@ -1,19 +1,16 @@
-/** Promises 4 to 7, 17 and 18: disks, cut writes, crashes, restarts, words and accesses. */
+/** Promises 4 to 7 and 18: disks, cut writes, crashes, restarts and accesses. */
 public final class FaultTest {
-    private static final int EJECT_1 = Check.entry(2, 1, 0, 0, 0, 0);
-
     public static void main(String[] args) {
         disks();
-        cutFirstWrites();
-        cutSecondWrites();
-        cutThirdWrites();
-        cutWritesSayNothing();
+        aFailedDiskIsNotWritten();
+        aFailedDiskIsNotRead();
         nothingToCut();
+        cutOrNotAtEachStep();
         crashes();
+        crashAtEachStep();
         restarts();
-        words();
+        restartAtEachStep();
         accesses();
-        wrongArguments();
         Check.end();
     }
 
@@ -38,12 +35,39 @@ public final class FaultTest {
         Check.block(x, "nothing at the failed disk", 0, 0, 0);
     }
 
-    /** A controller with a vote: the next step writes at disk 0 for phase 2. */
-    private static DiskArbiters voted() {
-        DiskArbiters x = new DiskArbiters();
-        x.want(0, 2, 1, 0, 0);
-        Check.steps(x, "to the vote", 0, 2, 4, 5, 5, 4, 5, 7);
-        return x;
+    private static void aFailedDiskIsNotWritten() {
+        for (int d = 0; d < 3; d++) {
+            DiskArbiters x = new DiskArbiters();
+            x.want(1, 2, 1, 0, 0);
+            x.disk(d, false);
+            Check.steps(x, "start", 1, 2);
+            for (int answers = 0; x.log(1) == 0 && answers < 20; answers++) {
+                x.step(1);
+            }
+            Check.due("two disks are enough", x.log(1), 1);
+            Check.due("accesses at two disks", x.accesses(1), 12);
+            Check.block(x, "failed disk " + d, d, 1, 0);
+            Check.due("works again", x.disk(d, true), true);
+            Check.block(x, "failed disk " + d + " back", d, 1, 0);
+        }
+    }
+
+    /** Controller 2's greater round is at disk 0 alone, which fails before it is read. */
+    private static void aFailedDiskIsNotRead() {
+        for (int reads = 0; reads < 2; reads++) {
+            DiskArbiters x = new DiskArbiters();
+            x.want(0, 2, 1, 0, 0);
+            x.want(2, 2, 1, 0, 0);
+            Check.steps(x, "the greater round", 2, 2, 4);
+            Check.steps(x, "up to the read", 0, reads == 0 ? new int[] {2, 4} : new int[] {2, 4, 5});
+            x.disk(0, false);
+            Check.steps(x, "passed by", 0, 3);
+            Check.due("accesses", x.accesses(0), 1 + reads);
+            x.disk(0, true);
+            Check.steps(x, "nothing was read there", 0, 4, 5, 5, 4, 5, 7);
+            Check.steps(x, "what it has is read when it is back", 0, 4, 5, 6, 2);
+            Check.due("round behind what was read", x.round(0), 4);
+        }
     }
 
     private static void cut(DiskArbiters x, int keep) {
@@ -51,94 +75,6 @@ public final class FaultTest {
         Check.due("cut behind " + keep, x.tear(0, keep), true);
         Check.due("it is down", x.phase(0), -1);
         Check.due("a cut write counts", x.accesses(0), before + 1);
-    }
-
-    /** The first words, then those that were there before. */
-    private static int[] over(int keep, int at, int[] news, int... before) {
-        int[] words = before.clone();
-        System.arraycopy(news, 0, words, at, keep);
-        return words;
-    }
-
-    private static void cutFirstWrites() {
-        for (int keep = 0; keep <= 5; keep++) {
-            DiskArbiters x = new DiskArbiters();
-            x.want(0, 2, 1, 0, 0);
-            Check.steps(x, "start", 0, 2);
-            cut(x, keep);
-            int[] first = {1, 1, 0, 0, 1};
-            Check.block(x, "first write, cut", 0, 0, 0, over(keep, 0, first, 0, 0, 0, 0, 0, 0, 0, 0, 0, 0));
-            Check.due("started stays", x.round(0), 1);
-            x.restart(0);
-            Check.steps(x, "again", 0, 2, 4);
-            if (keep < 5) {
-                Check.block(x, "slot 0 again", 0, 0, 0, 1, 4, 0, 0, 1);
-            } else {
-                Check.block(x, "the other slot", 0, 0, 0, 1, 1, 0, 0, 1, 2, 4, 0, 0, 2);
-            }
-        }
-    }
-
-    private static void cutSecondWrites() {
-        for (int keep = 0; keep <= 5; keep++) {
-            DiskArbiters x = voted();
-            cut(x, keep);
-            int[] second = {2, 1, 1, EJECT_1, 2};
-            Check.block(x, "second write, cut", 0, 0, 0, over(keep, 5, second, 1, 1, 0, 0, 1, 0, 0, 0, 0, 0));
-            Check.due("the vote stays", x.vote(0, true), EJECT_1);
-            x.restart(0);
-            Check.steps(x, "again", 0, 2, 4);
-            if (keep < 5) {
-                Check.block(x, "slot 1 again", 0, 0, 0, 1, 1, 0, 0, 1, 2, 4, 1, EJECT_1, 2);
-            } else {
-                Check.block(x, "slot 0 again", 0, 0, 0, 3, 4, 1, EJECT_1, 3, 2, 1, 1, EJECT_1, 2);
-            }
-        }
-    }
-
-    private static void cutThirdWrites() {
-        for (int keep = 0; keep <= 5; keep++) {
-            DiskArbiters x = voted();
-            Check.steps(x, "second write", 0, 4);
-            x.crash(0);
-            x.restart(0);
-            Check.steps(x, "start", 0, 2);
-            cut(x, keep);
-            int[] third = {3, 4, 1, EJECT_1, 3};
-            Check.block(x, "third write, cut", 0, 0, 0, over(keep, 0, third, 1, 1, 0, 0, 1, 2, 1, 1, EJECT_1, 2));
-            x.restart(0);
-            Check.steps(x, "again", 0, 2, 4);
-            if (keep < 5) {
-                Check.block(x, "slot 0 again", 0, 0, 0, 3, 7, 1, EJECT_1, 3, 2, 1, 1, EJECT_1, 2);
-            } else {
-                Check.block(x, "slot 1", 0, 0, 0, 3, 4, 1, EJECT_1, 3, 4, 7, 1, EJECT_1, 4);
-            }
-        }
-    }
-
-    /** What a rival reads: the round and vote of a write count only if its mark is there. */
-    private static void cutWritesSayNothing() {
-        for (int keep = 0; keep <= 5; keep++) {
-            DiskArbiters x = voted();
-            Check.steps(x, "second write", 0, 4);
-            x.crash(0);
-            x.restart(0);
-            Check.steps(x, "start", 0, 2);
-            cut(x, keep);
-            x.want(1, 2, 7, 0, 0);
-            Check.steps(x, "round 4 is read only if it is whole", 1, 2, 4, keep < 5 ? 5 : 6);
-            if (keep < 5) {
-                Check.steps(x, "the vote before it is read", 1, 5, 4, 5, 7);
-                Check.due("vote", x.vote(1, true), EJECT_1);
-            }
-        }
-        for (int keep = 0; keep <= 5; keep++) {
-            DiskArbiters x = voted();
-            cut(x, keep);
-            x.want(1, 2, 7, 0, 0);
-            Check.steps(x, "the vote is read only if it is whole", 1, 2, 4, 5, 5, 4, 5, 7);
-            Check.due("vote", x.vote(1, true), keep < 5 ? Check.entry(2, 7, 0, 0, 1, 0) : EJECT_1);
-        }
     }
 
     private static void noCut(DiskArbiters x, String what) {
@@ -171,8 +107,35 @@ public final class FaultTest {
         noCut(x, "up again");
     }
 
+    private static DiskArbiters after(int steps) {
+        DiskArbiters x = new DiskArbiters();
+        x.want(0, 2, 1, 0, 0);
+        for (int i = 0; i < steps; i++) {
+            Check.steps(x, "on the way", 0, Check.ASKING_AND_VOTING[i]);
+        }
+        return x;
+    }
+
+    /** A write is cut just where the next step would be one. */
+    private static void cutOrNotAtEachStep() {
+        for (int steps = 0; steps <= 13; steps++) {
+            boolean writes = steps < 13 && Check.ASKING_AND_VOTING[steps] == 4;
+            if (writes) {
+                DiskArbiters x = after(steps);
+                int round = x.round(0);
+                int vote = x.vote(0, true);
+                cut(x, steps % 6);
+                Check.due("round stays", x.round(0), round);
+                Check.due("vote stays", x.vote(0, true), vote);
+                Check.due("was down", x.crash(0), false);
+            } else {
+                noCut(after(steps), "behind " + steps + " steps");
+            }
+        }
+    }
+
     private static void crashes() {
-        DiskArbiters x = voted();
+        DiskArbiters x = Check.voted();
         Check.due("was up", x.crash(0), true);
         String before = Check.picture(x);
         Check.due("was down", x.crash(0), false);
@@ -181,7 +144,7 @@ public final class FaultTest {
         Check.thrown(x, "no step", IllegalStateException.class, () -> x.step(0));
         Check.due("round is kept", x.round(0), 1);
         Check.due("round of vote is kept", x.vote(0, false), 1);
-        Check.due("vote is kept", x.vote(0, true), EJECT_1);
+        Check.due("vote is kept", x.vote(0, true), Check.EJECT_1);
         Check.due("accesses are kept", x.accesses(0), 6);
         Check.due("wish is kept", x.outcome(0, 0), 0);
         Check.due("others are up", x.phase(1), 0);
@@ -189,53 +152,70 @@ public final class FaultTest {
         Check.due("others step", x.step(1), 0);
     }
 
+    private static void fileIs(DiskArbiters x, String what, int steps) {
+        Check.due(what + ": log", x.log(0), steps == 13 ? 1 : 0);
+        Check.due(what + ": outcome", x.outcome(0, 0), steps == 13 ? 1 : 0);
+        Check.due(what + ": round", x.round(0), steps == 0 ? 0 : 1);
+        Check.due(what + ": round of vote", x.vote(0, false), steps >= 7 && steps < 13 ? 1 : 0);
+        Check.due(what + ": entry of vote", x.vote(0, true), steps >= 7 && steps < 13 ? Check.EJECT_1 : 0);
+        Check.due(what + ": where", x.where(0, 1), steps == 13 ? 4 : 3);
+    }
+
+    private static void crashAtEachStep() {
+        for (int steps = 0; steps <= 13; steps++) {
+            DiskArbiters x = after(steps);
+            String what = "crash behind " + steps + " steps";
+            int accesses = x.accesses(0);
+            Check.due(what, x.crash(0), true);
+            Check.due(what + ": phase", x.phase(0), -1);
+            fileIs(x, what, steps);
+            Check.due(what + ": restart", x.restart(0), true);
+            Check.due(what + ": phase again", x.phase(0), 0);
+            fileIs(x, what + ", up again", steps);
+            Check.due(what + ": accesses", x.accesses(0), accesses);
+            goesOnFromPhase0(x, what, steps);
+        }
+    }
+
+    private static void goesOnFromPhase0(DiskArbiters x, String what, int steps) {
+        if (steps == 13) {
+            Check.steps(x, what + ", no wish waits", 0, 0);
+        } else {
+            Check.logOne(x, what + ", a round from its beginning", 0);
+            Check.due(what + ": its round", x.round(0), steps == 0 ? 1 : 4);
+            Check.due(what + ": placed", x.outcome(0, 0), 1);
+            Check.due(what + ": its entry", x.entry(0, 0), Check.EJECT_1);
+            Check.due(what + ": done", x.where(0, 1), 4);
+        }
+    }
+
     private static void restarts() {
-        DiskArbiters x = voted();
+        DiskArbiters x = Check.voted();
         x.crash(0);
         Check.due("was down", x.restart(0), true);
         Check.due("phase", x.phase(0), 0);
         Check.due("was up", x.restart(0), false);
-        Check.due("vote is kept", x.vote(0, true), EJECT_1);
+        Check.due("vote is kept", x.vote(0, true), Check.EJECT_1);
         Check.steps(x, "a new round", 0, 2, 4, 5, 5, 4, 5, 7, 4, 5, 5, 4, 5, 8);
         Check.due("its round", x.round(0), 4);
         Check.due("placed", x.outcome(0, 0), 1);
         // The document says what holds behind the call, and not that a controller that is up is left alone.
-        DiskArbiters y = voted();
+        DiskArbiters y = Check.voted();
         Check.due("was up", y.restart(0), false);
         Check.due("phase 0 all the same", y.phase(0), 0);
-        Check.due("vote is kept", y.vote(0, true), EJECT_1);
+        Check.due("vote is kept", y.vote(0, true), Check.EJECT_1);
         Check.steps(y, "a new round", 0, 2);
         Check.due("its round", y.round(0), 4);
     }
 
-    private static void words() {
-        DiskArbiters x = new DiskArbiters();
-        x.want(2, 2, 1, 0, 0);
-        x.want(2, 3, 1, 0, 0);
-        Check.logOne(x, "place 0", 2);
-        int eject = Check.entry(2, 1, 0, 0, 2, 0);
-        int insert = Check.entry(3, 1, 0, 0, 2, 1);
-        for (int d = 0; d < 2; d++) {
-            Check.block(x, "two writes at disk " + d, d, 2, 0, 1, 3, 0, 0, 1, 2, 3, 3, eject, 2);
-            Check.block(x, "another's block", d, 1, 0);
-            Check.block(x, "another place", d, 2, 1);
-        }
-        Check.block(x, "no write at disk 2", 2, 2, 0);
-        Check.logOne(x, "place 1", 2);
-        Check.block(x, "place 1", 1, 2, 1, 1, 6, 0, 0, 1, 2, 6, 6, insert, 2);
-        Check.block(x, "place 0 as before", 1, 2, 0, 1, 3, 0, 0, 1, 2, 3, 3, eject, 2);
-        for (int i : new int[] {-1, 10, Integer.MIN_VALUE, Integer.MAX_VALUE}) {
-            Check.thrown(x, "word " + i, IllegalArgumentException.class, () -> x.word(0, 2, 0, i));
-            Check.thrown(x, "word " + i + " of disk 3", IndexOutOfBoundsException.class, () -> x.word(3, 2, 0, i));
-            Check.thrown(x, "word " + i + " of controller 3", IndexOutOfBoundsException.class, () -> x.word(0, 3, 0, i));
-            Check.thrown(x, "word " + i + " of place 24", IndexOutOfBoundsException.class, () -> x.word(0, 2, 24, i));
-        }
-        for (int n : new int[] {-1, 3, Integer.MIN_VALUE, Integer.MAX_VALUE}) {
-            Check.thrown(x, "disk " + n, IndexOutOfBoundsException.class, () -> x.word(n, 0, 0, 0));
-            Check.thrown(x, "controller " + n, IndexOutOfBoundsException.class, () -> x.word(0, n, 0, 0));
-        }
-        for (int n : new int[] {-1, 24, Integer.MIN_VALUE, Integer.MAX_VALUE}) {
-            Check.thrown(x, "place " + n, IndexOutOfBoundsException.class, () -> x.word(0, 0, n, 0));
+    private static void restartAtEachStep() {
+        for (int steps = 0; steps <= 13; steps++) {
+            DiskArbiters x = after(steps);
+            String what = "restart behind " + steps + " steps";
+            Check.due(what, x.restart(0), false);
+            Check.due(what + ": phase", x.phase(0), 0);
+            fileIs(x, what, steps);
+            goesOnFromPhase0(x, what, steps);
         }
     }
 
@@ -265,21 +245,5 @@ public final class FaultTest {
         Check.steps(y, "rival", 1, 2, 4);
         Check.steps(y, "way is given", 0, 2, 4, 6);
         Check.due("that read counts", y.accesses(0), 2);
-    }
-
-    private static void wrongArguments() {
-        DiskArbiters x = new DiskArbiters();
-        for (int n : new int[] {-1, 3, Integer.MIN_VALUE, Integer.MAX_VALUE}) {
-            Check.thrown(x, "disk " + n, IndexOutOfBoundsException.class, () -> x.disk(n, false));
-            Check.thrown(x, "disk " + n, IndexOutOfBoundsException.class, () -> x.disk(n, true));
-            Check.thrown(x, "tear " + n, IndexOutOfBoundsException.class, () -> x.tear(n, 0));
-            Check.thrown(x, "tear " + n + " with 6 words", IndexOutOfBoundsException.class, () -> x.tear(n, 6));
-            Check.thrown(x, "crash " + n, IndexOutOfBoundsException.class, () -> x.crash(n));
-            Check.thrown(x, "restart " + n, IndexOutOfBoundsException.class, () -> x.restart(n));
-            Check.thrown(x, "accesses " + n, IndexOutOfBoundsException.class, () -> x.accesses(n));
-        }
-        for (int keep : new int[] {-1, 6, Integer.MIN_VALUE, Integer.MAX_VALUE}) {
-            Check.thrown(x, "keep " + keep, IllegalArgumentException.class, () -> x.tear(0, keep));
-        }
     }
 }

@@ -33,7 +33,6 @@ public final class LibraryTest {
             new LibraryTest("log by " + c, c).logAndEntries();
         }
         onlyItsOwnState();
-        wrongArguments();
         Check.end();
     }
 
@@ -207,21 +206,5 @@ public final class LibraryTest {
         test.drive(1, 1, -1);
         test.drive(2, -1, 1);
         test.cartridge(1, 1);
-    }
-
-    private static void wrongArguments() {
-        DiskArbiters x = new DiskArbiters();
-        for (int n : new int[] {-1, 3, Integer.MIN_VALUE, Integer.MAX_VALUE}) {
-            Check.thrown(x, "log " + n, IndexOutOfBoundsException.class, () -> x.log(n));
-            Check.thrown(x, "entry of " + n, IndexOutOfBoundsException.class, () -> x.entry(n, 0));
-            Check.thrown(x, "holds of " + n, IndexOutOfBoundsException.class, () -> x.holds(n, 0));
-            Check.thrown(x, "holds " + n, IndexOutOfBoundsException.class, () -> x.holds(0, n));
-            Check.thrown(x, "where of " + n, IndexOutOfBoundsException.class, () -> x.where(n, 0));
-            Check.thrown(x, "reserved of " + n, IndexOutOfBoundsException.class, () -> x.reserved(n, 0));
-            Check.thrown(x, "reserved " + n, IndexOutOfBoundsException.class, () -> x.reserved(0, n));
-        }
-        for (int n : new int[] {-1, 8, Integer.MIN_VALUE, Integer.MAX_VALUE}) {
-            Check.thrown(x, "where " + n, IndexOutOfBoundsException.class, () -> x.where(0, n));
-        }
     }
 }

@@ -20,7 +20,6 @@ public final class StepTest {
         oneDiskIsNotEnough();
         looksAtItsPlaceAlone();
         aFullLog();
-        wrongArguments();
         Check.end();
     }
 
@@ -73,23 +72,12 @@ public final class StepTest {
                 if (rival != reader) {
                     boolean first = rival == (reader == 0 ? 1 : 0);
                     DiskArbiters x = new DiskArbiters();
-                    startLate(x, rival, 2);
+                    Check.startOften(x, rival, 2);
                     Check.steps(x, "rival writes", rival, 4);
                     x.want(reader, 2, 0, 0, 0);
                     Check.steps(x, "reader " + reader + " of " + rival, reader, first ? new int[] {2, 4, 6} : new int[] {2, 4, 5, 6});
                 }
             }
-        }
-    }
-
-    /** Starts that often: all but the last are lost by crashes. */
-    private static void startLate(DiskArbiters x, int c, int times) {
-        x.want(c, 2, c, 0, 0);
-        for (int i = 0; i < times; i++) {
-            x.crash(c);
-            x.restart(c);
-            Check.steps(x, "start", c, 2);
-            Check.due("started round", x.round(c), 3 * i + c + 1);
         }
     }
 
@@ -100,7 +88,7 @@ public final class StepTest {
             DiskArbiters x = new DiskArbiters();
             int rival = next[i][0];
             int reader = readers[i];
-            startLate(x, rival, rival < reader ? 3 : 2);
+            Check.startOften(x, rival, rival < reader ? 3 : 2);
             Check.steps(x, "rival writes", rival, 4);
             Check.due("rival's round", x.round(rival), next[i][2]);
             x.want(reader, 2, 7, 0, 0);
@@ -118,7 +106,7 @@ public final class StepTest {
 
     private static void forgetsWhatItSaw() {
         DiskArbiters x = new DiskArbiters();
-        startLate(x, 2, 3);
+        Check.startOften(x, 2, 3);
         Check.steps(x, "rival writes", 2, 4);
         x.want(0, 2, 0, 0, 0);
         Check.steps(x, "way is given", 0, 2, 4, 5, 6);
@@ -338,16 +326,5 @@ public final class StepTest {
         Check.thrown(x, "down and no place left", IllegalStateException.class, () -> x.step(1));
         x.restart(1);
         Check.thrown(x, "up again", NoSuchElementException.class, () -> x.step(1));
-    }
-
-    private static void wrongArguments() {
-        DiskArbiters x = new DiskArbiters();
-        for (int n : new int[] {-1, 3, Integer.MIN_VALUE, Integer.MAX_VALUE}) {
-            Check.thrown(x, "step " + n, IndexOutOfBoundsException.class, () -> x.step(n));
-            Check.thrown(x, "phase " + n, IndexOutOfBoundsException.class, () -> x.phase(n));
-            Check.thrown(x, "round " + n, IndexOutOfBoundsException.class, () -> x.round(n));
-            Check.thrown(x, "vote " + n, IndexOutOfBoundsException.class, () -> x.vote(n, true));
-            Check.thrown(x, "vote " + n, IndexOutOfBoundsException.class, () -> x.vote(n, false));
-        }
     }
 }

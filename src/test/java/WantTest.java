@@ -2,9 +2,11 @@
 public final class WantTest {
     public static void main(String[] args) {
         wishesAreNumbered();
-        wrongArguments();
         fiveWait();
+        fiveWaitOfOneThatIsDown();
         sixtyInAll();
+        theGreatestEntry();
+        theLeastEntry();
         outcomes();
         Check.end();
     }
@@ -26,24 +28,6 @@ public final class WantTest {
         Check.due("entry of wish 2", x.entry(1, 1), 6 + 8 * 3 + 64 + 256 * 2 + 1024 + 4096 * 2);
     }
 
-    private static void wrongArguments() {
-        DiskArbiters x = new DiskArbiters();
-        for (int c : new int[] {-1, 3, Integer.MIN_VALUE, Integer.MAX_VALUE}) {
-            Check.thrown(x, "want of " + c, IndexOutOfBoundsException.class, () -> x.want(c, 0, 0, 0, 0));
-            Check.thrown(x, "want of " + c + ", kind 8", IndexOutOfBoundsException.class, () -> x.want(c, 8, 0, 0, 0));
-            Check.thrown(x, "outcome of " + c, IndexOutOfBoundsException.class, () -> x.outcome(c, 0));
-        }
-        for (int kind : new int[] {-1, 8, Integer.MIN_VALUE, Integer.MAX_VALUE}) {
-            Check.thrown(x, "kind " + kind, IllegalArgumentException.class, () -> x.want(0, kind, 0, 0, 0));
-            Check.thrown(x, "cartridge " + kind, IllegalArgumentException.class, () -> x.want(0, 0, kind, 0, 0));
-        }
-        for (int number : new int[] {-1, 3, Integer.MIN_VALUE, Integer.MAX_VALUE}) {
-            Check.thrown(x, "drive " + number, IllegalArgumentException.class, () -> x.want(0, 0, 0, number, 0));
-            Check.thrown(x, "client " + number, IllegalArgumentException.class, () -> x.want(0, 0, 0, 0, number));
-        }
-        Check.due("what throws counts for nothing", x.want(0, 7, 7, 2, 2), 0);
-    }
-
     private static void fiveWait() {
         DiskArbiters x = new DiskArbiters();
         for (int i = 0; i < 5; i++) {
@@ -60,6 +44,21 @@ public final class WantTest {
         Check.thrown(x, "five once more", UnsupportedOperationException.class, () -> x.want(0, 0, 0, 0, 0));
     }
 
+    private static void fiveWaitOfOneThatIsDown() {
+        DiskArbiters x = new DiskArbiters();
+        x.crash(2);
+        for (int i = 0; i < 5; i++) {
+            Check.due("wish " + i, x.want(2, 3, 1, 0, 0), i);
+        }
+        Check.thrown(x, "a sixth", UnsupportedOperationException.class, () -> x.want(2, 0, 0, 0, 0));
+        x.restart(2);
+        Check.thrown(x, "a sixth, up again", UnsupportedOperationException.class, () -> x.want(2, 0, 0, 0, 0));
+        Check.steps(x, "the first is refused", 2, 1);
+        x.crash(2);
+        Check.due("then there is room", x.want(2, 3, 1, 0, 0), 5);
+        Check.thrown(x, "a seventh", UnsupportedOperationException.class, () -> x.want(2, 0, 0, 0, 0));
+    }
+
     private static void sixtyInAll() {
         DiskArbiters x = new DiskArbiters();
         for (int i = 0; i < 60; i++) {
@@ -70,6 +69,34 @@ public final class WantTest {
         Check.thrown(x, "wish 60", UnsupportedOperationException.class, () -> x.want(2, 3, 0, 0, 0));
         Check.thrown(x, "outcome 60", java.util.NoSuchElementException.class, () -> x.outcome(2, 60));
         Check.due("another controller's", x.want(1, 0, 0, 0, 0), 0);
+    }
+
+    /** The last wish, of the last kind, with the last of all that it names. */
+    private static void theGreatestEntry() {
+        DiskArbiters x = new DiskArbiters();
+        for (int i = 0; i < 58; i++) {
+            x.want(2, 7, 7, 2, 2);
+            Check.steps(x, "release of what is not reserved", 2, 1);
+        }
+        x.want(2, 6, 7, 2, 2);
+        Check.logOne(x, "reserve", 2);
+        Check.due("the sixtieth", x.want(2, 7, 7, 2, 2), 59);
+        Check.due("the last one waits", x.outcome(2, 59), 0);
+        Check.logOne(x, "release", 2);
+        Check.due("the greatest entry", x.entry(2, 1), 7 + 8 * 7 + 64 * 2 + 256 * 2 + 1024 * 2 + 4096 * 59);
+        Check.due("its word", x.word(1, 2, 1, 8), 244415);
+        Check.due("the last one is placed", x.outcome(2, 59), 2);
+        Check.due("the one before it", x.outcome(2, 58), 1);
+        Check.due("nothing else", x.outcome(2, 57), -1);
+    }
+
+    private static void theLeastEntry() {
+        DiskArbiters x = new DiskArbiters();
+        x.want(0, 0, 0, 0, 0);
+        Check.logOne(x, "mount", 0);
+        Check.due("the least entry", x.entry(0, 0), 0);
+        Check.due("placed", x.outcome(0, 0), 1);
+        Check.due("done", x.holds(0, 0), 0);
     }
 
     private static void outcomes() {
