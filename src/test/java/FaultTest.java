@@ -10,6 +10,8 @@ public final class FaultTest {
         crashAtEachStep();
         restarts();
         restartAtEachStep();
+        restartForgetsTheRoundsSeen();
+        wordsOfAFailedDisk();
         accesses();
         Check.end();
     }
@@ -217,6 +219,43 @@ public final class FaultTest {
             fileIs(x, what, steps);
             goesOnFromPhase0(x, what, steps);
         }
+    }
+
+    /** Controller 0 saw round 9 of controller 2, and started 1 itself. */
+    private static DiskArbiters sawRound9() {
+        DiskArbiters x = new DiskArbiters();
+        Check.startOften(x, 2, 3);
+        Check.steps(x, "rival writes", 2, 4);
+        x.want(0, 2, 0, 0, 0);
+        Check.steps(x, "round 9 is seen", 0, 2, 4, 5, 6);
+        return x;
+    }
+
+    private static void restartForgetsTheRoundsSeen() {
+        DiskArbiters seen = sawRound9();
+        Check.steps(seen, "starts", 0, 2);
+        Check.due("without a restart", seen.round(0), 10);
+        DiskArbiters down = sawRound9();
+        down.crash(0);
+        Check.due("was down", down.restart(0), true);
+        Check.steps(down, "starts", 0, 2);
+        Check.due("restart of one that was down", down.round(0), 4);
+        DiskArbiters up = sawRound9();
+        Check.due("was up", up.restart(0), false);
+        Check.steps(up, "starts", 0, 2);
+        Check.due("restart of one that was up", up.round(0), 4);
+    }
+
+    private static void wordsOfAFailedDisk() {
+        DiskArbiters x = Check.voted();
+        Check.steps(x, "the vote at disk 0", 0, 4);
+        for (int d = 0; d < 3; d++) {
+            x.disk(d, false);
+        }
+        Check.block(x, "failed disk 0", 0, 0, 0, 1, 1, 0, 0, 1, 2, 1, 1, Check.EJECT_1, 2);
+        Check.block(x, "failed disk 1", 1, 0, 0, 1, 1, 0, 0, 1);
+        Check.block(x, "failed disk 2", 2, 0, 0);
+        Check.thrown(x, "word 10", IllegalArgumentException.class, () -> x.word(0, 0, 0, 10));
     }
 
     private static void accesses() {

@@ -15,6 +15,8 @@ public final class StepTest {
         keepsTheLaterVote();
         startsFromItsOwnVote();
         keepsTheBestVoteRoundTheDisks();
+        keepsTheBestVoteOfADiskThatFailsHalfway();
+        aNewRoundForgetsTheVotesItRead();
         leavesAFailedDiskHalfway();
         startsAnewBehindTheLastDisk();
         oneDiskIsNotEnough();
@@ -223,11 +225,17 @@ public final class StepTest {
         state(x, "its own old vote", 1, 2, 5, 5, entry);
     }
 
-    private static void keepsTheBestVoteRoundTheDisks() {
+    private static DiskArbiters oneVoteAtDisk0() {
         DiskArbiters x = new DiskArbiters();
         x.want(0, 2, 5, 0, 0);
         x.want(1, 2, 6, 0, 0);
+        x.want(2, 2, 7, 0, 0);
         Check.steps(x, "vote of 0 at disk 0", 0, 2, 4, 5, 5, 4, 5, 7, 4);
+        return x;
+    }
+
+    private static void keepsTheBestVoteRoundTheDisks() {
+        DiskArbiters x = oneVoteAtDisk0();
         x.disk(1, false);
         x.disk(2, false);
         Check.steps(x, "seen at disk 0", 1, 2, 4, 5, 5, 3, 3);
@@ -236,6 +244,36 @@ public final class StepTest {
         x.disk(2, true);
         Check.steps(x, "then the other disks", 1, 3, 4, 5, 5, 4, 5, 7);
         state(x, "still the best", 1, 2, 2, 2, Check.entry(2, 5, 0, 0, 0, 0));
+    }
+
+    private static void keepsTheBestVoteOfADiskThatFailsHalfway() {
+        DiskArbiters x = oneVoteAtDisk0();
+        Check.steps(x, "seen at disk 0", 1, 2, 4, 5);
+        x.disk(0, false);
+        Check.steps(x, "then the other disks", 1, 3, 4, 5, 5, 4, 5, 7);
+        state(x, "still the best", 1, 2, 2, 2, Check.entry(2, 5, 0, 0, 0, 0));
+    }
+
+    /** The best vote is its own one where a round starts, whatever ended the round before. */
+    private static void aNewRoundForgetsTheVotesItRead() {
+        for (String ends : new String[] {"crash", "restart", "gives way"}) {
+            DiskArbiters x = oneVoteAtDisk0();
+            Check.steps(x, "the vote is read", 1, 2, 4, 5);
+            switch (ends) {
+                case "crash" -> {
+                    x.crash(1);
+                    x.restart(1);
+                }
+                case "restart" -> x.restart(1);
+                default -> {
+                    Check.steps(x, "a greater round", 2, 2, 4);
+                    Check.steps(x, ends, 1, 6);
+                }
+            }
+            x.disk(0, false);
+            Check.steps(x, ends + ", then at the disks without the vote", 1, 2, 3, 4, 5, 5, 4, 5, 7);
+            state(x, ends + ": its own wish", 1, 2, 5, 5, Check.entry(2, 6, 0, 0, 1, 0));
+        }
     }
 
     private static void leavesAFailedDiskHalfway() {
